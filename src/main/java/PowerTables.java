@@ -24,12 +24,11 @@ public final class PowerTables {
     private static final int GUESSES = 3;
     private static final int FORECASTS = 3;
 
-    private static final int DIGEST_START = 2957;
+    private static final long DIGEST_START = 2957;
     private static final int DIGEST_ROWS_AHEAD = 3;
 
     private static final int EXPONENT_OF_ONE = 1023;
     private static final int FRACTION_BITS = 52;
-    private static final double FRACTION_UNITS = 4503599627370496.0;
 
     private final Table table = new Table();
     private final SavedTables saved = new SavedTables();
@@ -191,7 +190,7 @@ public final class PowerTables {
             case 1:
                 return table.printed[row];
             case 2:
-                return table.rightNumber(row);
+                return table.right[row];
             case 3:
                 return table.error(row);
             default:
@@ -327,7 +326,7 @@ public final class PowerTables {
         for (int i = 0; i < rows; i++) {
             number = triedRegisters.nextNumber();
             blurred += triedTypes.printDigits(number);
-            wrong += number != table.rightNumber(table.rows + i) ? 1 : 0;
+            wrong += number != table.reckonRight(table.rows + i) ? 1 : 0;
         }
         if (what == 0) {
             return number;
@@ -563,7 +562,7 @@ public final class PowerTables {
             scaled = scaled * 2.0;
             exponent--;
         }
-        long fraction = (long) ((scaled - 1.0) * FRACTION_UNITS);
+        long fraction = (long) ((scaled - 1.0) * (1L << FRACTION_BITS));
         return (exponent << FRACTION_BITS) + fraction;
     }
 
@@ -575,6 +574,8 @@ public final class PowerTables {
         private int groupRows = 5;
         private int rowsStruck;
         private final long[] printed = new long[MOST_ROWS];
+        // Reckoned once, as the rows are printed: sums and checks ask for it over and over.
+        private final long[] right = new long[MOST_ROWS];
         private final int[] blurred = new int[MOST_ROWS];
         private final Registers registers = new Registers();
         private final Types types = new Types();
@@ -587,6 +588,7 @@ public final class PowerTables {
             rowsStruck = other.rowsStruck;
             for (int i = 0; i < MOST_ROWS; i++) {
                 printed[i] = other.printed[i];
+                right[i] = other.right[i];
                 blurred[i] = other.blurred[i];
             }
             registers.copyFrom(other.registers);
@@ -602,16 +604,16 @@ public final class PowerTables {
         }
 
         /** Also of a row that is not printed yet. */
-        long rightNumber(int row) {
+        long reckonRight(int row) {
             return raise(first + row, power);
         }
 
         long error(int row) {
-            return printed[row] - rightNumber(row);
+            return printed[row] - right[row];
         }
 
         boolean isWrong(int row) {
-            return error(row) != 0;
+            return printed[row] != right[row];
         }
 
         /** Prints rows, for which there is room, and tells how many of their digits are blurred. */
@@ -619,6 +621,7 @@ public final class PowerTables {
             int sum = 0;
             for (int i = 0; i < more && rows < MOST_ROWS; i++) {
                 printed[rows] = registers.nextNumber();
+                right[rows] = reckonRight(rows);
                 blurred[rows] = types.printDigits(printed[rows]);
                 sum += blurred[rows];
                 rows++;
@@ -627,7 +630,7 @@ public final class PowerTables {
         }
 
         int strikeAnew(int row) {
-            printed[row] = rightNumber(row);
+            printed[row] = right[row];
             blurred[row] = types.printDigits(printed[row]);
             rowsStruck++;
             return blurred[row];
@@ -661,7 +664,7 @@ public final class PowerTables {
         long rightSum(int from, int to) {
             long sum = 0;
             for (int row = from; row < to; row++) {
-                sum += rightNumber(row);
+                sum += right[row];
             }
             return sum;
         }

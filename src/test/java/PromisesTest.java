@@ -27,7 +27,8 @@ public final class PromisesTest {
         promise12ObeyStops();
         promise12ObeyIncomplete();
         promise13Undo();
-        promise13UndoRestoresAllButBuffer();
+        promise13UndoLeavesTheBuffer();
+        promise13UndoGivesBackRows();
         promise13UndoOfEachMethod();
         promise14Row();
         promise15Register();
@@ -484,34 +485,16 @@ public final class PromisesTest {
         due("undo: first of the branch", 50, x.count(1));
     }
 
-    private static void promise13UndoRestoresAllButBuffer() {
+    private static void promise13UndoLeavesTheBuffer() {
         PowerTables x = begun(3, 4);
-        x.set(0, 3);
-        x.set(1, 4);
-        x.slip(2, 1, 1);
-        x.print(9);
-        x.strike(6);
-        long before = x.digest();
         write(x, "p2;s00+1;n2;c;p3");
         x.obey();
+        due("undo of obey", 1, x.undo());
+        due("undo: the orders do not come back", 0, x.clearBuffer());
+        x.print(2);
         write(x, "zz");
         x.undo();
         due("undo: the buffer stays", 2, x.clearBuffer());
-        // Six states were saved ahead of the orders; theirs is the seventh, so that the first one is lost.
-        due("undo: saved states", 5, x.count(11));
-        x.undo();
-        x.strike(6);
-        due("undo: all else is as it was", before, x.digest() + shiftOfSavedStates(x, 6));
-    }
-
-    /** What the digest would be more by if count(11) were this number. */
-    private static long shiftOfSavedStates(PowerTables x, int states) {
-        long weight = 1;
-        int behind = 2 + 12 + 5 * x.count(2) + 4 * x.count(5) + (x.count(2) > 0 ? 6 : 0) + 10 + 3 + 3 + 3 + 1;
-        for (int i = 0; i < behind; i++) {
-            weight *= 31;
-        }
-        return weight * (states - x.count(11));
     }
 
     private static void undoes(String what, java.util.function.Consumer<PowerTables> change) {
@@ -528,6 +511,19 @@ public final class PromisesTest {
             write(x, "p1;s10+2;c;n4");
         }
         due("undo of " + what + ": digest", before, x.digest());
+    }
+
+    private static void promise13UndoGivesBackRows() {
+        PowerTables x = begun(1, 3);
+        x.set(1, 1);
+        x.print(40);
+        String rows = column(x, 1) + " / " + column(x, 4);
+        x.begin(2, 7);
+        x.print(40);
+        x.undo();
+        due("undo: no rows", 0, x.count(2));
+        x.undo();
+        due("undo: 40 rows", rows, column(x, 1) + " / " + column(x, 4));
     }
 
     private static void promise13UndoOfEachMethod() {
@@ -668,6 +664,11 @@ public final class PromisesTest {
         due("counts behind a strike", "1 8 7 2 4 3 1 6 2 14 1 6", counts(x));
         x.undo();
         due("counts behind undo", "1 8 7 3 4 3 1 5 2 12 0 5", counts(x));
+        x.begin(0, 0);
+        x.renew(1);
+        x.print(2);
+        x.strike(0);
+        due("count(7): the row 0", 2, x.count(7));
         for (int far : FAR) {
             throwing("count(" + far + ")", ILLEGAL, () -> x.count(far));
         }
@@ -809,11 +810,13 @@ public final class PromisesTest {
         due("mostWorn: 5", 5, x.mostWorn());
         x.renew(5);
         due("mostWorn: 3 again", 3, x.mostWorn());
-        x.begin(0, 0);
         x.begin(1, 9);
         x.print(1);
         x.strike(0);
         due("mostWorn: 9", 9, x.mostWorn());
+        x.begin(0, 0);
+        x.print(3);
+        due("mostWorn: 1", 1, x.mostWorn());
     }
 
     private static void promise25Rightness() {
@@ -853,17 +856,25 @@ public final class PromisesTest {
         x.print(10);
         x.strike(5);
         due("digest of 13 rows", Long.valueOf(hashOf(x)), x.digest());
-        for (int rows = 1; rows <= 40; rows++) {
-            x.begin(0, 0);
-            x.renew(1);
-            x.set(1, Math.max(1, rows / 2));
-            x.print(rows);
-            due("digest of " + rows + " rows", Long.valueOf(hashOf(x)), x.digest());
-        }
+        promise26DigestOfShares();
         x.begin(1, 7);
         x.slip(0, 0, 1);
         x.print(2);
         due("digest with rightness 0", Long.valueOf(hashOf(x)), x.digest());
+    }
+
+    private static void promise26DigestOfShares() {
+        for (int rows = 1; rows <= 40; rows++) {
+            PowerTables x = begun(0, 0);
+            for (int clear = 1; clear <= rows; clear++) {
+                x.begin(0, 0);
+                x.renew(1);
+                x.set(1, clear);
+                x.print(rows);
+                due("rightness of " + clear + " in " + rows, (double) clear / rows, x.rightness());
+                due("digest of " + clear + " in " + rows, Long.valueOf(hashOf(x)), x.digest());
+            }
+        }
     }
 
     private static long hashOf(PowerTables x, int... codes) {
