@@ -40,6 +40,7 @@ public final class PromisesTest {
         promise20Setting();
         promise21Guess();
         promise21GuessEdges();
+        promise21GuessUpToOrder5();
         promise22IfPrinted();
         promise23BestGroup();
         promise24MostWorn();
@@ -743,6 +744,20 @@ public final class PromisesTest {
         due("guess: all slipped, 7 rows", "5 6 -5", guess(x));
     }
 
+    /** Errors whose differences are the same from one order on, which can be an order above all registers. */
+    private static void promise21GuessUpToOrder5() {
+        PowerTables fifth = begun(0, 0);
+        for (int error : new int[] {1, 6, 21, 56, 126, 252, 462}) {
+            printWrong(fifth, error);
+        }
+        due("guess: the same 5th differences", "5 1 -5", guess(fifth));
+        PowerTables sixth = begun(0, 0);
+        for (int error : new int[] {1, 7, 28, 84, 210, 462, 924, 1716, 3003}) {
+            printWrong(sixth, error);
+        }
+        due("guess: the same 6th differences alone", "-1 0 -1", guess(sixth));
+    }
+
     private static void promise22IfPrinted() {
         PowerTables x = begun(1, 8);
         x.set(1, 1);
@@ -763,10 +778,12 @@ public final class PromisesTest {
         throwing("ifPrinted(1, 3)", ILLEGAL, () -> x.ifPrinted(1, 3));
     }
 
-    /** Prints a row of a table of ones with an error. */
+    /** Prints a row with this error. */
     private static void printWrong(PowerTables x, int error) {
         x.correct();
-        x.slip(0, 0, error);
+        for (int column = 0, rest = error; rest != 0; column++, rest /= 10) {
+            x.slip(0, column, rest % 10);
+        }
         x.print(1);
     }
 
