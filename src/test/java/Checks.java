@@ -21,6 +21,10 @@ final class Checks {
         }
     }
 
+    int checked() {
+        return checked;
+    }
+
     void isTrue(String what, boolean got) {
         due(what, true, got);
     }

@@ -61,68 +61,6 @@ public final class PromisesTest {
         CHECKS.throwing(what, want, call);
     }
 
-    private static PowerTables begun(int power, int first) {
-        PowerTables x = new PowerTables();
-        x.begin(power, first);
-        return x;
-    }
-
-    private static void write(PowerTables x, String text) {
-        for (int i = 0; i < text.length(); i++) {
-            x.append(text.charAt(i));
-        }
-    }
-
-    private static PowerTables written(String text) {
-        PowerTables x = new PowerTables();
-        write(x, text);
-        return x;
-    }
-
-    private static String registers(PowerTables x, boolean isRight) {
-        StringBuilder told = new StringBuilder();
-        for (int i = 0; i < 6; i++) {
-            told.append(i == 0 ? "" : " ").append(x.register(i, isRight));
-        }
-        return told.toString();
-    }
-
-    private static String column(PowerTables x, int what) {
-        StringBuilder told = new StringBuilder();
-        for (int i = 0; i < x.count(2); i++) {
-            told.append(i == 0 ? "" : " ").append(x.row(i, what));
-        }
-        return told.toString();
-    }
-
-    private static String wears(PowerTables x) {
-        StringBuilder told = new StringBuilder();
-        for (int i = 0; i < 10; i++) {
-            told.append(i == 0 ? "" : " ").append(x.wear(i));
-        }
-        return told.toString();
-    }
-
-    private static String counts(PowerTables x) {
-        StringBuilder told = new StringBuilder();
-        for (int i = 0; i < 12; i++) {
-            told.append(i == 0 ? "" : " ").append(x.count(i));
-        }
-        return told.toString();
-    }
-
-    private static String group(PowerTables x, int group) {
-        return x.group(group, 0) + " " + x.group(group, 1) + " " + x.group(group, 2) + " " + x.group(group, 3);
-    }
-
-    private static String guess(PowerTables x) {
-        return x.guess(0) + " " + x.guess(1) + " " + x.guess(2);
-    }
-
-    private static String ifPrinted(PowerTables x, int rows) {
-        return x.ifPrinted(rows, 0) + " " + x.ifPrinted(rows, 1) + " " + x.ifPrinted(rows, 2);
-    }
-
     // ---- the promises
 
     private static void constants() {
@@ -131,11 +69,11 @@ public final class PromisesTest {
 
     private static void promise1NewObject() {
         PowerTables x = new PowerTables();
-        due("new: counts", "2 0 0 0 -1 0 0 0 0 0 0 0", counts(x));
-        due("new: registers", "0 1 2 0 0 0", registers(x, false));
-        due("new: right registers", "0 1 2 0 0 0", registers(x, true));
+        due("new: counts", "2 0 0 0 -1 0 0 0 0 0 0 0", Told.counts(x));
+        due("new: registers", "0 1 2 0 0 0", Told.registers(x, false));
+        due("new: right registers", "0 1 2 0 0 0", Told.registers(x, true));
         due("new: settings", "5 50", x.setting(0) + " " + x.setting(1));
-        due("new: wears", "0 0 0 0 0 0 0 0 0 0", wears(x));
+        due("new: wears", "0 0 0 0 0 0 0 0 0 0", Told.wears(x));
         due("new: buffer", 0, x.clearBuffer());
         throwing("new: undo", STATE, x::undo);
     }
@@ -145,15 +83,15 @@ public final class PromisesTest {
         due("begin(5, 99)", 0, x.begin(5, 99));
         due("begin: power", 5, x.count(0));
         due("begin: first", 99, x.count(1));
-        due("begin: registers", "9509900499 490099501 20001000 606030 12120 120", registers(x, false));
+        due("begin: registers", "9509900499 490099501 20001000 606030 12120 120", Told.registers(x, false));
         x.print(7);
         due("begin behind 7 rows", 7, x.begin(0, 0));
         due("begin: no rows", 0, x.count(2));
         throwing("begin: no row 0", INDEX, () -> x.row(0, 0));
-        due("0 to the power 0", "1 0 0 0 0 0", registers(x, false));
+        due("0 to the power 0", "1 0 0 0 0 0", Told.registers(x, false));
         x.slip(0, 0, 1);
         x.begin(1, 0);
-        due("begin puts registers right", "0 1 0 0 0 0", registers(x, false));
+        due("begin puts registers right", "0 1 0 0 0 0", Told.registers(x, false));
         for (int far : FAR) {
             throwing("begin: power " + far, ILLEGAL, () -> x.begin(far, 0));
             throwing("begin: first " + far, ILLEGAL, () -> x.begin(0, far));
@@ -169,18 +107,18 @@ public final class PromisesTest {
         x.set(0, 7);
         x.set(1, 3);
         x.begin(3, 1);
-        due("begin keeps wears", "1 1 0 0 1 0 0 0 0 2", wears(x));
+        due("begin keeps wears", "1 1 0 0 1 0 0 0 0 2", Told.wears(x));
         due("begin keeps settings", "7 3", x.setting(0) + " " + x.setting(1));
-        due("begin keeps counts", "3 1 0 0 -1 0 0 0 0 5 1 5", counts(x));
+        due("begin keeps counts", "3 1 0 0 -1 0 0 0 0 5 1 5", Told.counts(x));
     }
 
     private static void promise3Print() {
-        PowerTables x = begun(3, 2);
+        PowerTables x = States.begun(3, 2);
         due("print(4)", 0, x.print(4));
-        due("print: numbers", "8 27 64 125", column(x, 1));
-        due("print: registers go on", "216 127 42 6 0 0", registers(x, false));
+        due("print: numbers", "8 27 64 125", Told.column(x, 1));
+        due("print: registers go on", "216 127 42 6 0 0", Told.registers(x, false));
         due("print: digits", 8, x.count(9));
-        due("print: wears", "0 1 2 0 1 1 1 1 1 0", wears(x));
+        due("print: wears", "0 1 2 0 1 1 1 1 1 0", Told.wears(x));
         due("print: one saved state", 2, x.count(11));
         x.undo();
         due("print: undone as one call", 0, x.count(2));
@@ -204,7 +142,7 @@ public final class PromisesTest {
         x.begin(0, 5);
         due("print: worn up to the limit", 0, x.print(2));
         due("print: above the limit", 1, x.print(1));
-        due("print: blurred digits kept", "0 0 1", column(x, 4));
+        due("print: blurred digits kept", "0 0 1", Told.column(x, 4));
         x.begin(2, 11);
         due("print: 121 with a worn 1", 2, x.print(1));
         x.begin(2, 15);
@@ -212,11 +150,11 @@ public final class PromisesTest {
     }
 
     private static void promise3PrintBelowZero() {
-        PowerTables x = begun(1, 0);
+        PowerTables x = States.begun(1, 0);
         x.slip(0, 1, -5);
         x.print(1);
-        due("print: -50", "-50", column(x, 1));
-        due("print: without sign", "1 0 0 0 0 1 0 0 0 0", wears(x));
+        due("print: -50", "-50", Told.column(x, 1));
+        due("print: without sign", "1 0 0 0 0 1 0 0 0 0", Told.wears(x));
         due("print: two digits", 2, x.count(9));
         x.begin(1, 0);
         x.print(1);
@@ -229,8 +167,8 @@ public final class PromisesTest {
         due("slip(1, 2, 3)", 300, x.slip(1, 2, 3));
         due("slip(5, 9, -9)", -9000000000L, x.slip(5, 9, -9));
         due("slip(0, 0, 0)", 0, x.slip(0, 0, 0));
-        due("slip: registers", "0 301 2 0 0 -9000000000", registers(x, false));
-        due("slip: right registers stay", "0 1 2 0 0 0", registers(x, true));
+        due("slip: registers", "0 301 2 0 0 -9000000000", Told.registers(x, false));
+        due("slip: right registers stay", "0 1 2 0 0 0", Told.registers(x, true));
         due("slip: saved also if it changes nothing", 3, x.count(11));
         for (int far : FAR) {
             throwing("slip: register " + far, INDEX, () -> x.slip(far, 10, 10));
@@ -244,7 +182,7 @@ public final class PromisesTest {
     }
 
     private static void promise4SlipLimit() {
-        PowerTables x = begun(0, 0);
+        PowerTables x = States.begun(0, 0);
         x.slip(0, 0, -1);
         for (int i = 0; i < 11; i++) {
             x.slip(0, 9, 9);
@@ -279,35 +217,35 @@ public final class PromisesTest {
     }
 
     private static void promise5Correct() {
-        PowerTables x = begun(3, 2);
+        PowerTables x = States.begun(3, 2);
         due("correct: none wrong", 0, x.correct());
         x.slip(2, 0, 5);
         due("correct: one wrong", 1, x.correct());
-        due("correct: registers", "8 19 18 6 0 0", registers(x, false));
+        due("correct: registers", "8 19 18 6 0 0", Told.registers(x, false));
         x.slip(5, 0, 1);
         x.print(6);
         due("correct: all wrong", 6, x.correct());
-        due("correct: for the next row", "512 217 54 6 0 0", registers(x, false));
+        due("correct: for the next row", "512 217 54 6 0 0", Told.registers(x, false));
         due("correct: rows stay", 1, x.count(3));
         x.print(34);
         x.correct();
-        due("correct: behind row 39", "74088 5419 258 6 0 0", registers(x, false));
+        due("correct: behind row 39", "74088 5419 258 6 0 0", Told.registers(x, false));
     }
 
     private static void promise6Strike() {
-        PowerTables x = begun(1, 5);
+        PowerTables x = States.begun(1, 5);
         x.set(1, 1);
         x.slip(0, 1, 7);
         x.print(2);
-        due("strike: errors ahead", "70 70", column(x, 3));
-        due("strike: blurs ahead", "0 1", column(x, 4));
+        due("strike: errors ahead", "70 70", Told.column(x, 3));
+        due("strike: blurs ahead", "0 1", Told.column(x, 4));
         x.renew(6);
         due("strike(1): 6 is new, 7 is not", 0, x.strike(1));
-        due("strike: errors", "70 0", column(x, 3));
-        due("strike: blurs", "0 0", column(x, 4));
-        due("strike: registers stay", "77 1 0 0 0 0", registers(x, false));
+        due("strike: errors", "70 0", Told.column(x, 3));
+        due("strike: blurs", "0 0", Told.column(x, 4));
+        due("strike: registers stay", "77 1 0 0 0 0", Told.registers(x, false));
         due("strike(1) anew", 1, x.strike(1));
-        due("strike: blurs", "0 1", column(x, 4));
+        due("strike: blurs", "0 1", Told.column(x, 4));
         due("strike: digits", 6, x.count(9));
         due("strike: rows struck", 2, x.count(10));
         for (int far : FAR) {
@@ -318,12 +256,12 @@ public final class PromisesTest {
     }
 
     private static void promise7Renew() {
-        PowerTables x = begun(0, 0);
+        PowerTables x = States.begun(0, 0);
         x.set(1, 2);
         x.print(4);
         due("renew(1)", 4, x.renew(1));
         due("renew: wear", 0, x.wear(1));
-        due("renew: rows stay blurred", "0 0 1 1", column(x, 4));
+        due("renew: rows stay blurred", "0 0 1 1", Told.column(x, 4));
         due("renew: digits stay counted", 4, x.count(9));
         due("renew: prints clear", 0, x.print(2));
         due("renew(9)", 0, x.renew(9));
@@ -372,7 +310,7 @@ public final class PromisesTest {
     }
 
     private static void promise10ClearBuffer() {
-        PowerTables x = written("p4;c");
+        PowerTables x = States.written("p4;c");
         due("clearBuffer", 4, x.clearBuffer());
         due("clearBuffer again", 0, x.clearBuffer());
         due("clearBuffer: not undoable", 0, x.count(11));
@@ -381,7 +319,7 @@ public final class PromisesTest {
     }
 
     private static void firstErrorIs(int want, String text) {
-        due("firstError of " + text, want, written(text).firstError());
+        due("firstError of " + text, want, States.written(text).firstError());
     }
 
     private static void promise11FirstError() {
@@ -408,43 +346,43 @@ public final class PromisesTest {
     }
 
     private static void promise12Obey() {
-        PowerTables x = begun(1, 3);
-        write(x, "p3;s12-4;p12;n1;c;s00+9;p1");
+        PowerTables x = States.begun(1, 3);
+        States.write(x, "p3;s12-4;p12;n1;c;s00+9;p1");
         due("obey", 7, x.obey());
         due("obey: rows", 16, x.count(2));
-        due("obey: printed", "3 4 5 6 -393 -792", column(x, 1).substring(0, 17));
+        due("obey: printed", "3 4 5 6 -393 -792", Told.column(x, 1).substring(0, 17));
         due("obey: row 14", -4383, x.row(14, 1));
         due("obey: row 15", 27, x.row(15, 1));
         due("obey: renewed", 0, x.wear(1));
         due("obey: the buffer is cleared", 0, x.clearBuffer());
         due("obey: one state", 2, x.count(11));
         x.undo();
-        due("obey: undone as one call", "1 3 0 0 -1 0 0 0 0 0 0 1", counts(x));
-        write(x, "p40");
+        due("obey: undone as one call", "1 3 0 0 -1 0 0 0 0 0 0 1", Told.counts(x));
+        States.write(x, "p40");
         due("obey: p40", 1, x.obey());
         due("obey: 40 rows", 40, x.count(2));
-        write(x, "c");
+        States.write(x, "c");
         due("obey: c", 1, x.obey());
     }
 
     private static void promise12ObeyStops() {
         PowerTables x = new PowerTables();
-        write(x, "p39;p2;c;p1");
+        States.write(x, "p39;p2;c;p1");
         due("obey up to p2", 1, x.obey());
         due("obey: 39 rows", 39, x.count(2));
         due("obey: cleared", 0, x.clearBuffer());
-        write(x, "p2;p1");
+        States.write(x, "p2;p1");
         due("obey: none done", 0, x.obey());
         due("obey: saved if none is done", 2, x.count(11));
         due("obey: still 39 rows", 39, x.count(2));
         x.begin(0, 0);
-        write(x, "s59+9;s59+9;s59+9;s59+9;s59+9;s59+9");
+        States.write(x, "s59+9;s59+9;s59+9;s59+9;s59+9;s59+9");
         due("obey: slips", 6, x.obey());
-        write(x, "s59+9;s59+9;s59+9;s59+9;s59+9;s59+9;s00+1");
+        States.write(x, "s59+9;s59+9;s59+9;s59+9;s59+9;s59+9;s00+1");
         due("obey up to a slip above", 5, x.obey());
         due("obey: register 5", 99000000000L, x.register(5, false));
         due("obey: register 0", 1, x.register(0, false));
-        write(x, "s59-1;s00-2");
+        States.write(x, "s59-1;s00-2");
         due("obey: slips down", 2, x.obey());
         due("obey: register 5 down", 98000000000L, x.register(5, false));
         due("obey: register 0 down", -1, x.register(0, false));
@@ -453,7 +391,7 @@ public final class PromisesTest {
     private static void promise12ObeyIncomplete() {
         String[] texts = {"", "p", "s", "s0", "s00", "s00+", "n", "c;", "x", "p1;", "p1;p", "p1;x", "p0", "p1;;p1"};
         for (String text : texts) {
-            PowerTables x = written(text);
+            PowerTables x = States.written(text);
             throwing("obey of " + text, ILLEGAL, x::obey);
             due("obey of " + text + ": nothing is saved", 0, x.count(11));
             due("obey of " + text + ": nothing is done", 0, x.count(2));
@@ -461,7 +399,7 @@ public final class PromisesTest {
         }
         String[] complete = {"p1", "p4", "p5", "p12", "p40", "n7", "s00+1", "c", "c;p4"};
         for (String text : complete) {
-            due("obey of " + text, text.indexOf(';') < 0 ? 1 : 2, written(text).obey());
+            due("obey of " + text, text.indexOf(';') < 0 ? 1 : 2, States.written(text).obey());
         }
     }
 
@@ -487,44 +425,44 @@ public final class PromisesTest {
     }
 
     private static void promise13UndoLeavesTheBuffer() {
-        PowerTables x = begun(3, 4);
-        write(x, "p2;s00+1;n2;c;p3");
+        PowerTables x = States.begun(3, 4);
+        States.write(x, "p2;s00+1;n2;c;p3");
         x.obey();
         due("undo of obey", 1, x.undo());
         due("undo: the orders do not come back", 0, x.clearBuffer());
         x.print(2);
-        write(x, "zz");
+        States.write(x, "zz");
         x.undo();
         due("undo: the buffer stays", 2, x.clearBuffer());
     }
 
     private static void undoes(String what, java.util.function.Consumer<PowerTables> change) {
-        PowerTables x = begun(2, 7);
+        PowerTables x = States.begun(2, 7);
         x.slip(1, 0, 3);
         x.print(4);
-        write(x, "p1;s10+2;c;n4");
+        States.write(x, "p1;s10+2;c;n4");
         int states = x.count(11);
         long before = x.digest();
         change.accept(x);
         due("undo of " + what + ": one state", states + 1, x.count(11));
         due("undo of " + what, states, x.undo());
         if (what.equals("obey")) {
-            write(x, "p1;s10+2;c;n4");
+            States.write(x, "p1;s10+2;c;n4");
         }
         due("undo of " + what + ": digest", before, x.digest());
     }
 
     private static void promise13UndoGivesBackRows() {
-        PowerTables x = begun(1, 3);
+        PowerTables x = States.begun(1, 3);
         x.set(1, 1);
         x.print(40);
-        String rows = column(x, 1) + " / " + column(x, 4);
+        String rows = Told.column(x, 1) + " / " + Told.column(x, 4);
         x.begin(2, 7);
         x.print(40);
         x.undo();
         due("undo: no rows", 0, x.count(2));
         x.undo();
-        due("undo: 40 rows", rows, column(x, 1) + " / " + column(x, 4));
+        due("undo: 40 rows", rows, Told.column(x, 1) + " / " + Told.column(x, 4));
     }
 
     private static void promise13UndoOfEachMethod() {
@@ -543,15 +481,15 @@ public final class PromisesTest {
     }
 
     private static void promise14Row() {
-        PowerTables x = begun(2, 98);
+        PowerTables x = States.begun(2, 98);
         x.set(1, 1);
         x.slip(0, 2, -1);
         x.print(3);
-        due("row: arguments", "98 99 100", column(x, 0));
-        due("row: printed", "9504 9701 9900", column(x, 1));
-        due("row: right", "9604 9801 10000", column(x, 2));
-        due("row: errors", "-100 -100 -100", column(x, 3));
-        due("row: blurs", "0 2 4", column(x, 4));
+        due("row: arguments", "98 99 100", Told.column(x, 0));
+        due("row: printed", "9504 9701 9900", Told.column(x, 1));
+        due("row: right", "9604 9801 10000", Told.column(x, 2));
+        due("row: errors", "-100 -100 -100", Told.column(x, 3));
+        due("row: blurs", "0 2 4", Told.column(x, 4));
         for (int far : FAR) {
             throwing("row(" + far + ", 0)", INDEX, () -> x.row(far, 0));
             throwing("row(" + far + ", 5)", INDEX, () -> x.row(far, 5));
@@ -563,14 +501,14 @@ public final class PromisesTest {
     }
 
     private static void promise15Register() {
-        PowerTables x = begun(4, 1);
-        due("register: right for row 0", "1 15 50 60 24 0", registers(x, true));
+        PowerTables x = States.begun(4, 1);
+        due("register: right for row 0", "1 15 50 60 24 0", Told.registers(x, true));
         x.slip(4, 0, -4);
         x.print(1);
-        due("register: as it is", "16 65 110 80 20 0", registers(x, false));
-        due("register: right for row 1", "16 65 110 84 24 0", registers(x, true));
+        due("register: as it is", "16 65 110 80 20 0", Told.registers(x, false));
+        due("register: right for row 1", "16 65 110 84 24 0", Told.registers(x, true));
         x.print(39);
-        due("register: right for row 40", "2825761 285935 21170 1020 24 0", registers(x, true));
+        due("register: right for row 40", "2825761 285935 21170 1020 24 0", Told.registers(x, true));
         for (int far : FAR) {
             throwing("register(" + far + ", true)", INDEX, () -> x.register(far, true));
             throwing("register(" + far + ", false)", INDEX, () -> x.register(far, false));
@@ -580,19 +518,19 @@ public final class PromisesTest {
     }
 
     private static void promise16Group() {
-        PowerTables x = begun(1, 1);
+        PowerTables x = States.begun(1, 1);
         x.set(0, 3);
         x.print(4);
         x.slip(0, 1, 1);
         x.print(4);
-        due("group 0", "6 6 0 0", group(x, 0));
-        due("group 1", "35 15 1 2", group(x, 1));
-        due("group 2, not whole", "0 0 0 0", group(x, 2));
+        due("group 0", "6 6 0 0", Told.group(x, 0));
+        due("group 1", "35 15 1 2", Told.group(x, 1));
+        due("group 2, not whole", "0 0 0 0", Told.group(x, 2));
         x.print(1);
-        due("group 2, whole", "54 24 1 3", group(x, 2));
-        due("group 3", "0 0 0 0", group(x, 3));
-        due("far group", "0 0 0 0", group(x, Integer.MAX_VALUE));
-        due("group that would turn round", "0 0 0 0", group(x, 1431655766));
+        due("group 2, whole", "54 24 1 3", Told.group(x, 2));
+        due("group 3", "0 0 0 0", Told.group(x, 3));
+        due("far group", "0 0 0 0", Told.group(x, Integer.MAX_VALUE));
+        due("group that would turn round", "0 0 0 0", Told.group(x, 1431655766));
         due("groups", "3 2", x.count(5) + " " + x.count(6));
         throwing("group(-1, 0)", ILLEGAL, () -> x.group(-1, 0));
         throwing("group(least, 0)", ILLEGAL, () -> x.group(Integer.MIN_VALUE, 0));
@@ -611,14 +549,14 @@ public final class PromisesTest {
         x.slip(0, 0, -5);
         x.print(1);
         x.set(0, 2);
-        due("errors that cancel", "1 1 0 2", group(x, 0));
+        due("errors that cancel", "1 1 0 2", Told.group(x, 0));
         due("errors that cancel are not found", "2 1 0", x.count(3) + " " + x.count(5) + " " + x.count(6));
         x.set(0, 1);
         due("errors that do not", "2 2 2", x.count(3) + " " + x.count(5) + " " + x.count(6));
     }
 
     private static void promise17Difference() {
-        PowerTables x = begun(5, 0);
+        PowerTables x = States.begun(5, 0);
         x.slip(0, 0, 1);
         x.print(1);
         x.slip(0, 0, -1);
@@ -644,9 +582,9 @@ public final class PromisesTest {
     }
 
     private static void promise18Wear() {
-        PowerTables x = begun(3, 11);
+        PowerTables x = States.begun(3, 11);
         x.print(2);
-        due("wear of 1331 and 1728", "0 3 1 2 0 0 0 1 1 0", wears(x));
+        due("wear of 1331 and 1728", "0 3 1 2 0 0 0 1 1 0", Told.wears(x));
         for (int far : FAR) {
             throwing("wear(" + far + ")", INDEX, () -> x.wear(far));
         }
@@ -654,17 +592,17 @@ public final class PromisesTest {
     }
 
     private static void promise19Count() {
-        PowerTables x = begun(1, 8);
+        PowerTables x = States.begun(1, 8);
         x.set(0, 2);
         x.set(1, 1);
         x.print(3);
         x.slip(1, 0, 1);
         x.print(4);
-        due("counts", "1 8 7 3 4 3 1 5 2 12 0 6", counts(x));
+        due("counts", "1 8 7 3 4 3 1 5 2 12 0 6", Told.counts(x));
         x.strike(5);
-        due("counts behind a strike", "1 8 7 2 4 3 1 6 2 14 1 6", counts(x));
+        due("counts behind a strike", "1 8 7 2 4 3 1 6 2 14 1 6", Told.counts(x));
         x.undo();
-        due("counts behind undo", "1 8 7 3 4 3 1 5 2 12 0 5", counts(x));
+        due("counts behind undo", "1 8 7 3 4 3 1 5 2 12 0 5", Told.counts(x));
         x.begin(0, 0);
         x.renew(1);
         x.print(2);
@@ -690,20 +628,20 @@ public final class PromisesTest {
 
     private static void promise21Guess() {
         for (int register = 0; register < 6; register++) {
-            PowerTables x = begun(2, 3);
+            PowerTables x = States.begun(2, 3);
             x.print(4);
             x.slip(register, 2, -7);
-            due("guess ahead of the rows", "-1 0 -1", guess(x));
+            due("guess ahead of the rows", "-1 0 -1", Told.guess(x));
             x.print(2 * register + 1);
             if (register == 0) {
-                due("guess: one wrong row is too few", "-1 0 -1", guess(x));
+                due("guess: one wrong row is too few", "-1 0 -1", Told.guess(x));
             }
             x.print(1);
-            due("guess of register " + register, register + " -700 4", guess(x));
+            due("guess of register " + register, register + " -700 4", Told.guess(x));
             x.print(20);
-            due("guess of register " + register + ", more rows", register + " -700 4", guess(x));
+            due("guess of register " + register + ", more rows", register + " -700 4", Told.guess(x));
             x.strike(10);
-            due("guess behind a strike", "-1 0 -1", guess(x));
+            due("guess behind a strike", "-1 0 -1", Told.guess(x));
             for (int far : FAR) {
                 throwing("guess(" + far + ")", ILLEGAL, () -> x.guess(far));
             }
@@ -717,20 +655,20 @@ public final class PromisesTest {
         x.slip(1, 0, 1);
         x.slip(0, 0, 1);
         x.print(2);
-        due("guess: errors 1 2", "-1 0 -1", guess(x));
+        due("guess: errors 1 2", "-1 0 -1", Told.guess(x));
         x.print(1);
-        due("guess: below row 0", "1 1 -1", guess(x));
+        due("guess: below row 0", "1 1 -1", Told.guess(x));
         x.strike(0);
-        due("guess: errors 2 3 from row 1", "-1 0 -1", guess(x));
+        due("guess: errors 2 3 from row 1", "-1 0 -1", Told.guess(x));
         x.strike(1);
         x.strike(2);
-        due("guess: no row is wrong", "-1 0 -1", guess(x));
+        due("guess: no row is wrong", "-1 0 -1", Told.guess(x));
         x.begin(0, 0);
         x.slip(5, 0, 2);
         x.print(11);
-        due("guess: six rows of register 5", "-1 0 -1", guess(x));
+        due("guess: six rows of register 5", "-1 0 -1", Told.guess(x));
         x.print(1);
-        due("guess: seven rows of register 5", "5 2 0", guess(x));
+        due("guess: seven rows of register 5", "5 2 0", Told.guess(x));
         x.begin(0, 0);
         x.slip(0, 0, 1);
         x.slip(1, 0, 2);
@@ -739,36 +677,36 @@ public final class PromisesTest {
         x.slip(4, 0, 3);
         x.slip(5, 0, 6);
         x.print(6);
-        due("guess: all slipped, 6 rows", "-1 0 -1", guess(x));
+        due("guess: all slipped, 6 rows", "-1 0 -1", Told.guess(x));
         x.print(1);
-        due("guess: all slipped, 7 rows", "5 6 -5", guess(x));
+        due("guess: all slipped, 7 rows", "5 6 -5", Told.guess(x));
     }
 
     /** Errors whose differences are the same from one order on, which can be an order above all registers. */
     private static void promise21GuessUpToOrder5() {
-        PowerTables fifth = begun(0, 0);
+        PowerTables fifth = States.begun(0, 0);
         for (int error : new int[] {1, 6, 21, 56, 126, 252, 462}) {
-            printWrong(fifth, error);
+            States.printWrong(fifth, error);
         }
-        due("guess: the same 5th differences", "5 1 -5", guess(fifth));
-        PowerTables sixth = begun(0, 0);
+        due("guess: the same 5th differences", "5 1 -5", Told.guess(fifth));
+        PowerTables sixth = States.begun(0, 0);
         for (int error : new int[] {1, 7, 28, 84, 210, 462, 924, 1716, 3003}) {
-            printWrong(sixth, error);
+            States.printWrong(sixth, error);
         }
-        due("guess: the same 6th differences alone", "-1 0 -1", guess(sixth));
+        due("guess: the same 6th differences alone", "-1 0 -1", Told.guess(sixth));
     }
 
     private static void promise22IfPrinted() {
-        PowerTables x = begun(1, 8);
+        PowerTables x = States.begun(1, 8);
         x.set(1, 1);
-        due("ifPrinted(1)", "8 0 0", ifPrinted(x, 1));
-        due("ifPrinted(4)", "11 2 0", ifPrinted(x, 4));
+        due("ifPrinted(1)", "8 0 0", Told.ifPrinted(x, 1));
+        due("ifPrinted(4)", "11 2 0", Told.ifPrinted(x, 4));
         x.slip(1, 0, 1);
-        due("ifPrinted(4) behind a slip", "14 2 3", ifPrinted(x, 4));
+        due("ifPrinted(4) behind a slip", "14 2 3", Told.ifPrinted(x, 4));
         due("ifPrinted: what printing brings", x.ifPrinted(30, 1), x.print(30));
         due("ifPrinted: the last row", 66, x.row(29, 1));
-        due("ifPrinted(40) above 40 rows", "146 102 40", ifPrinted(x, 40));
-        due("ifPrinted changes nothing", "68 2 0 0 0 0", registers(x, false));
+        due("ifPrinted(40) above 40 rows", "146 102 40", Told.ifPrinted(x, 40));
+        due("ifPrinted changes nothing", "68 2 0 0 0 0", Told.registers(x, false));
         for (int far : FAR) {
             throwing("ifPrinted(" + far + ", 0)", ILLEGAL, () -> x.ifPrinted(far, 0));
             throwing("ifPrinted(1, " + far + ")", ILLEGAL, () -> x.ifPrinted(1, far));
@@ -778,23 +716,14 @@ public final class PromisesTest {
         throwing("ifPrinted(1, 3)", ILLEGAL, () -> x.ifPrinted(1, 3));
     }
 
-    /** Prints a row with this error. */
-    private static void printWrong(PowerTables x, int error) {
-        x.correct();
-        for (int column = 0, rest = error; rest != 0; column++, rest /= 10) {
-            x.slip(0, column, rest % 10);
-        }
-        x.print(1);
-    }
-
     private static void promise23BestGroup() {
-        PowerTables x = begun(0, 0);
+        PowerTables x = States.begun(0, 0);
         due("bestGroup without rows", 20, x.bestGroup());
         x.print(3);
         due("bestGroup: no row is wrong", 20, x.bestGroup());
-        printWrong(x, 1);
+        States.printWrong(x, 1);
         due("bestGroup: the last of 4 rows", 4, x.bestGroup());
-        printWrong(x, -1);
+        States.printWrong(x, -1);
         due("bestGroup: rows 3 and 4 of 5 cancel", 1, x.bestGroup());
         x.correct();
         x.print(3);
@@ -807,9 +736,9 @@ public final class PromisesTest {
     }
 
     private static void promise23BestGroupOfTheLastRows() {
-        PowerTables x = begun(0, 0);
+        PowerTables x = States.begun(0, 0);
         x.print(38);
-        printWrong(x, 2);
+        States.printWrong(x, 2);
         due("bestGroup: the last of 39 rows", 13, x.bestGroup());
         x.correct();
         x.print(1);
@@ -817,7 +746,7 @@ public final class PromisesTest {
     }
 
     private static void promise24MostWorn() {
-        PowerTables x = begun(1, 3);
+        PowerTables x = States.begun(1, 3);
         due("mostWorn of new types", 0, x.mostWorn());
         x.print(1);
         due("mostWorn: 3", 3, x.mostWorn());
@@ -837,7 +766,7 @@ public final class PromisesTest {
     }
 
     private static void promise25Rightness() {
-        PowerTables x = begun(0, 0);
+        PowerTables x = States.begun(0, 0);
         due("rightness without rows", 1.0, x.rightness());
         x.set(1, 2);
         x.print(3);
@@ -861,103 +790,54 @@ public final class PromisesTest {
 
     private static void promise26Digest() {
         PowerTables x = new PowerTables();
-        due("digest of a new object", Long.valueOf(hashOf(x)), x.digest());
-        write(x, "p7;");
-        due("digest with a buffer", Long.valueOf(hashOf(x, 'p', '7', ';')), x.digest());
+        due("digest of a new object", Long.valueOf(Told.hashOf(x)), x.digest());
+        States.write(x, "p7;");
+        due("digest with a buffer", Long.valueOf(Told.hashOf(x, 'p', '7', ';')), x.digest());
         x.clearBuffer();
         x.set(0, 4);
         x.set(1, 6);
         x.print(3);
-        due("digest of 3 rows", Long.valueOf(hashOf(x)), x.digest());
+        due("digest of 3 rows", Long.valueOf(Told.hashOf(x)), x.digest());
         x.slip(1, 3, -2);
         x.print(10);
         x.strike(5);
-        due("digest of 13 rows", Long.valueOf(hashOf(x)), x.digest());
+        due("digest of 13 rows", Long.valueOf(Told.hashOf(x)), x.digest());
         promise26DigestOfShares();
         x.begin(1, 7);
         x.slip(0, 0, 1);
         x.print(2);
-        due("digest with rightness 0", Long.valueOf(hashOf(x)), x.digest());
+        due("digest with rightness 0", Long.valueOf(Told.hashOf(x)), x.digest());
     }
 
     private static void promise26DigestOfShares() {
         for (int rows = 1; rows <= 40; rows++) {
-            PowerTables x = begun(0, 0);
             for (int clear = 1; clear <= rows; clear++) {
-                x.begin(0, 0);
-                x.renew(1);
+                PowerTables x = States.begun(0, 0);
                 x.set(1, clear);
                 x.print(rows);
                 due("rightness of " + clear + " in " + rows, (double) clear / rows, x.rightness());
-                due("digest of " + clear + " in " + rows, Long.valueOf(hashOf(x)), x.digest());
+                due("digest of " + clear + " in " + rows, Long.valueOf(Told.hashOf(x)), x.digest());
             }
         }
-    }
-
-    private static long hashOf(PowerTables x, int... codes) {
-        java.util.List<Long> values = new java.util.ArrayList<>();
-        for (int i = 0; i < 12; i++) {
-            values.add((long) x.count(i));
-        }
-        values.add((long) x.setting(0));
-        values.add((long) x.setting(1));
-        for (int i = 0; i < 6; i++) {
-            values.add(x.register(i, false));
-            values.add(x.register(i, true));
-        }
-        for (int i = 0; i < x.count(2); i++) {
-            for (int what = 0; what < 5; what++) {
-                values.add(x.row(i, what));
-            }
-        }
-        for (int i = 0; i < x.count(5); i++) {
-            for (int what = 0; what < 4; what++) {
-                values.add(x.group(i, what));
-            }
-        }
-        for (int order = 0; order < 6 && x.count(2) > 0; order++) {
-            values.add(x.difference(order, 0));
-        }
-        for (int i = 0; i < 10; i++) {
-            values.add((long) x.wear(i));
-        }
-        for (int what = 0; what < 3; what++) {
-            values.add(x.guess(what));
-        }
-        for (int what = 0; what < 3; what++) {
-            values.add(x.ifPrinted(3, what));
-        }
-        values.add((long) x.bestGroup());
-        values.add((long) x.mostWorn());
-        values.add(Double.doubleToLongBits(x.rightness()));
-        values.add((long) codes.length);
-        for (int code : codes) {
-            values.add((long) code);
-        }
-        long hash = 2957;
-        for (long value : values) {
-            hash = 31 * hash + value;
-        }
-        return hash;
     }
 
     // ---- what holds for many
 
     private static void looksChangeNothing() {
-        PowerTables x = begun(4, 6);
+        PowerTables x = States.begun(4, 6);
         x.slip(2, 3, 4);
         x.print(11);
-        write(x, "p3;q");
+        States.write(x, "p3;q");
         long before = x.digest();
         for (int i = 0; i < 12; i++) {
             x.count(i);
         }
         x.row(3, 3);
-        registers(x, true);
-        group(x, 1);
+        Told.registers(x, true);
+        Told.group(x, 1);
         x.difference(5, 2);
-        guess(x);
-        ifPrinted(x, 40);
+        Told.guess(x);
+        Told.ifPrinted(x, 40);
         x.bestGroup();
         x.mostWorn();
         x.rightness();
@@ -969,7 +849,7 @@ public final class PromisesTest {
         PowerTables x = new PowerTables();
         x.slip(4, 9, 9);
         x.print(40);
-        write(x, "p3;");
+        States.write(x, "p3;");
         long before = x.digest();
         Checks.Call[] calls = {
             () -> x.begin(6, 0), () -> x.begin(0, 100), () -> x.print(0), () -> x.print(1), () -> x.slip(6, 0, 0),
