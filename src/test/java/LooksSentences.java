@@ -290,6 +290,7 @@ final class LooksSentences {
                 x.strike(5);
                 s.due("13 is struck", "1 8 7 2 4 3 1 6 2 14 1 6", Told.counts(x));
                 s.due("a new object", "2 0 0 0 -1 0 0 0 0 0 0 0", Told.counts(new PowerTables()));
+                registersThatAreWrongNow();
             });
         s.holds("Returns a number.", () -> s.alwaysChangesNothing("count", x -> x.count(6)));
         s.holds("Returns the number.", this::countsOfRows);
@@ -319,6 +320,21 @@ final class LooksSentences {
         blurred.print(1);
         blurred.strike(0);
         s.due("both digits of the row 0, as it is now", 2, blurred.count(7));
+    }
+
+    /** Also when no row is left for which they could be right. */
+    private void registersThatAreWrongNow() {
+        for (int rows : new int[] {1, 39, 40}) {
+            PowerTables x = States.begun(5, 2);
+            x.print(rows);
+            s.due("none is wrong behind " + rows + " rows", 0, x.count(8));
+            for (int wrong = 1; wrong <= 6; wrong++) {
+                x.slip(6 - wrong, 0, -1);
+                s.due(wrong + " are wrong behind " + rows + " rows", wrong, x.count(8));
+            }
+            x.slip(3, 0, 1);
+            s.due("one is right by chance", 5, x.count(8));
+        }
     }
 
     private void setting() {

@@ -219,6 +219,7 @@ public final class PromisesTest {
     private static void promise5Correct() {
         PowerTables x = States.begun(3, 2);
         due("correct: none wrong", 0, x.correct());
+        due("correct: none wrong, but a state is saved", 2, x.count(11));
         x.slip(2, 0, 5);
         due("correct: one wrong", 1, x.correct());
         due("correct: registers", "8 19 18 6 0 0", Told.registers(x, false));
@@ -608,6 +609,10 @@ public final class PromisesTest {
         x.print(2);
         x.strike(0);
         due("count(7): the row 0", 2, x.count(7));
+        x.print(38);
+        due("count(8): behind the row 39, none wrong", 0, x.count(8));
+        x.slip(4, 0, 1);
+        due("count(8): behind the row 39, one wrong", 1, x.count(8));
         for (int far : FAR) {
             throwing("count(" + far + ")", ILLEGAL, () -> x.count(far));
         }
